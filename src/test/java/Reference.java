@@ -14,6 +14,11 @@ final class Reference {
     final int sign;
     final int infinity;
     final int nan;
+    /** The exponent of the greatest, as far above 0 as that of the least normal is below 1. */
+    final int bias;
+    final int one;
+    final int leastNormal;
+    final int greatest;
     /** The numbers of FLOATs 0 .. infinity - 1, and at the end the one that would come next. */
     private final double[] row;
 
@@ -29,6 +34,10 @@ final class Reference {
         sign = size / 2;
         infinity = sign - (1 << (s - 1));
         nan = infinity + (1 << (s - 2));
+        bias = (1 << (e - 1)) - 1;
+        leastNormal = 1 << (s - 1);
+        one = bias * leastNormal;
+        greatest = infinity - 1;
         row = new double[infinity + 1];
         double step = Math.pow(2, 2 - (1 << (e - 1)) - (s - 1));
         for (int x = 1; x <= infinity; x++) {
@@ -36,6 +45,23 @@ final class Reference {
             step = nextBinade ? step * 2 : step;
             row[x] = row[x - 1] + step;
         }
+    }
+
+    /** All 40 FORMATs. */
+    static Reference[] all() {
+        Reference[] formats = new Reference[40];
+        Arrays.setAll(formats, i -> new Reference(2 + i % 4, 2 + i / 4));
+        return formats;
+    }
+
+    /** The FLOAT of 2^k, which this FORMAT must have. */
+    int power(int k) {
+        boolean normal = k >= 1 - bias;
+        return normal ? (k + bias) * leastNormal : 1 << (k - (2 - bias - s));
+    }
+
+    int minus(int x) {
+        return x + sign;
     }
 
     boolean isNan(int x) {
@@ -171,10 +197,8 @@ final class Reference {
             Arrays.setAll(all, x -> x);
             return all;
         }
-        int one = ((1 << (e - 1)) - 1) << (s - 1);
-        int least = 1 << (s - 1);
-        int[] edges = {0, 1, 2, 3, least - 1, least, least + 1, one - 1, one, one + 1, one + least / 2,
-            infinity - 2, infinity - 1, infinity, infinity + 1, nan, sign - 1};
+        int[] edges = {0, 1, 2, 3, leastNormal - 1, leastNormal, leastNormal + 1, one - 1, one, one + 1,
+            one + leastNormal / 2, infinity - 2, infinity - 1, infinity, infinity + 1, nan, sign - 1};
         int[] chosen = new int[most];
         long seed = size;
         for (int i = 0; i < most; i++) {
