@@ -9,6 +9,7 @@ public final class EdgePromise03Test {
         quotientsOfInfinitiesAndZeros(check);
         zerosOfProductsAndQuotients(check);
         exactQuotients(check);
+        quotientsOfTheLeast(check);
         refused(check);
         check.end();
     }
@@ -138,6 +139,21 @@ public final class EdgePromise03Test {
                     run.answers(format.one, "reckon", 3, mode, x, x);
                     run.answers(format.minus(format.one), "reckon", 3, mode, format.minus(x), x);
                 }
+            }
+        }
+    }
+
+    /** In 5, 11: y, and the quotients of the least FLOAT by it in the MODES 0 to 4. */
+    private static void quotientsOfTheLeast(Check check) {
+        check.sentence("3: quotients that lie some 2^-22 behind a half, and behind a FLOAT");
+        int[][] rows = {{0x07ff, 0x1001, 0x1001, 0x1001, 0x1000, 0x1000},
+            {0x87ff, 0x9001, 0x9001, 0x9000, 0x9001, 0x9000},
+            {0x0401, 0x13fe, 0x13fe, 0x13ff, 0x13fe, 0x13fe},
+            {0x8401, 0x93fe, 0x93fe, 0x93fe, 0x93ff, 0x93fe}};
+        Run run = new Run(check);
+        for (int[] row : rows) {
+            for (int mode = 0; mode <= 4; mode++) {
+                run.answers(row[1 + mode], "reckon", 3, mode, 0x0001, row[0]);
             }
         }
     }
